@@ -859,7 +859,7 @@ public final class Notebookspire {
                     cells.fill(cell, NUMBER, number);
                     break;
                 case ADD:
-                    if (!cells.addNumber(cell, number)) {
+                    if (!cells.addTo(cell, number)) {
                         return steps;
                     }
                     break;
@@ -1046,7 +1046,7 @@ public final class Notebookspire {
             cells[cell * WIDTH + 4] = second;
         }
 
-        boolean addNumber(int cell, int number) {
+        boolean addTo(int cell, int number) {
             int sum = cells[cell * WIDTH + 1] + number;
             if (sortOf(cell) >= FORMULA || sum < -MOST_NUMBER || sum > MOST_NUMBER) {
                 return false;
