@@ -29,11 +29,11 @@ public final class Notebookspire {
     private static final int EMPTY = 2000000, FAULT = 3000000;
     private static final int[] FIRST_SIZES = {30, 20, 10, 8};
 
-    private final Parts parts = new Parts();
-    private final Sheet[] sheets = new Sheet[MOST_PARTS];
+    private final Values values = new Values();
+    private final Parts parts = values.parts;
+    private final Sheet[] sheets = values.sheets;
     private final Text[] texts = new Text[MOST_PARTS];
     private final Deck[] decks = new Deck[MOST_PARTS];
-    private final Values values;
     /** The tokens of the comments, and behind them those of the shows. */
     private final Span[] spans = new Span[MOST_COMMENTS + MOST_SHOWS];
     private final int[] makers = new int[MOST_COMMENTS];
@@ -50,12 +50,12 @@ public final class Notebookspire {
     private int lineCount;
 
     public Notebookspire() {
-        values = new Values(parts, sheets);
-        for (int i = 0; i < spans.length; i++) {
+        for (int i = 0; i < MOST_COMMENTS; i++) {
             spans[i] = new Span();
         }
-        for (int i = 0; i < windows.length; i++) {
-            windows[i] = new Window(spans[MOST_COMMENTS + i]);
+        for (int i = 0; i < MOST_SHOWS; i++) {
+            windows[i] = new Window();
+            spans[MOST_COMMENTS + i] = windows[i].span;
         }
     }
 
@@ -1086,19 +1086,15 @@ public final class Notebookspire {
 
     /** The values of all cells, found in rounds when they are asked and something has changed since. */
     private static final class Values {
-        final Parts parts;
-        final Sheet[] sheets;
+        /** By the rights to them other SHEETs are hidden. */
+        final Parts parts = new Parts();
+        final Sheet[] sheets = new Sheet[MOST_PARTS];
         /** Those of all cells, by parts, then cells; of a blank one what spills into it. */
         final int[] told = new int[MOST_PARTS * CELLS];
         /** How many cells a LIST fills; 0 with an error, which has no count. */
         private final int[] counts = new int[MOST_PARTS * CELLS];
         boolean known;
         int roundCount;
-
-        Values(Parts parts, Sheet[] sheets) {
-            this.parts = parts;
-            this.sheets = sheets;
-        }
 
         void find() {
             if (known) {
@@ -1117,10 +1113,14 @@ public final class Notebookspire {
         private void begin() {
             for (int i = 0; i < told.length; i++) {
                 Sheet sheet = sheets[i / CELLS];
-                int sort = sheet == null ? BLANK : sheet.sortOf(i % CELLS);
-                told[i] = sort == BLANK ? EMPTY : sort == NUMBER ? sheet.cells[i % CELLS * Sheet.WIDTH + 1] : 0;
+                told[i] = sheet == null ? EMPTY : atFirst(sheet, i % CELLS);
                 counts[i] = 1;
             }
+        }
+
+        private static int atFirst(Sheet sheet, int cell) {
+            int sort = sheet.sortOf(cell);
+            return sort == BLANK ? EMPTY : sort == NUMBER ? sheet.cells[cell * Sheet.WIDTH + 1] : 0;
         }
 
         /** One round; whether a value or a count became another one. */
@@ -1809,7 +1809,7 @@ public final class Notebookspire {
 
     /** A show: of cells of a SHEET, or of a span of a TEXT. */
     private static final class Window {
-        final Span span;
+        final Span span = new Span();
         int firstCell = NONE;
         int lastCell = NONE;
         boolean isFrozen;
@@ -1818,10 +1818,6 @@ public final class Notebookspire {
         boolean wasAsked;
         /** What it showed when that was asked last. */
         final Strip asked = new Strip(MOST_SIGNS);
-
-        Window(Span span) {
-            this.span = span;
-        }
     }
 
     /** Characters, up to a limit. */

@@ -79,6 +79,13 @@ public final class VersionsTest {
         y.formula(0, 0, 0, 0, 0, 4, 1, 2);
         y.version();
         differ("43: the second cell of a formula", y, 3, 4, 0, 1);
+        Notebookspire z = new Notebookspire();
+        z.make(0, Notebookspire.SHEET);
+        z.formula(0, 0, 0, 3, 0, 1, 0, 5);
+        z.version();
+        z.formula(0, 0, 0, 3, 0, 5, 0, 1);
+        z.version();
+        differ("43: a range by other corners", z, 0, 1, 0, 1);
     }
 
     private static void rows(String one, String other, int want) {
