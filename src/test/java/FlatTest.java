@@ -250,6 +250,11 @@ public final class FlatTest {
         Check.due("40: two more", z.takeIn(0, 1, 3), 2);
         Check.due("40: 298 edits, no row", z.log(4) - z.length(4), 298);
         Check.state("40: of characters that are left out, none counts", z, () -> z.takeIn(0, 0, 4));
+        Notebookspire u = parts("abc");
+        u.make(0, Notebookspire.TEXT);
+        fill(u, 3, 297);
+        Check.due("40: 297 edits, a row of one", u.log(3) + u.length(3), 298);
+        Check.state("40: 301 with what is taken out and put in", u, () -> u.takeIn(0, 1, 3));
         Notebookspire w = parts("");
         w.make(0, Notebookspire.TEXT);
         fill(w, 3, 296);

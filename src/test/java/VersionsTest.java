@@ -194,6 +194,12 @@ public final class VersionsTest {
         z.drop(0, 0, 1);
         z.version();
         differ("43: a new slide has the steps 0", z, 0, 1, 0, 0);
+        for (int i = 0; i < 3; i++) {
+            z.box(0, 0, 0, i, -1, 0);
+            z.box(0, 0, -1, i, -1, 0);
+        }
+        z.version();
+        differ("43: and so has the master", z, 1, 2, 0, 0);
     }
 
     private static void partsInOneAlone() {
