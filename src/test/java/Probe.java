@@ -1,4 +1,5 @@
 import java.util.function.IntSupplier;
+import java.util.function.Supplier;
 
 /**
  * All that an object answers, told as one text: what can be asked at first, then calls that change it too, in one fixed
@@ -12,6 +13,60 @@ final class Probe {
 
     private Probe(Notebookspire x) {
         this.x = x;
+    }
+
+    /** What objects that are made alike answer, one of them after the other. */
+    static String all(Supplier<Notebookspire> made) {
+        StringBuilder b = new StringBuilder(all(made.get()));
+        suggestions(made, b);
+        steps(made, b);
+        return b.toString();
+    }
+
+    /** Each comment is taken on an object of its own, as taking it closes others. */
+    private static void suggestions(Supplier<Notebookspire> made, StringBuilder b) {
+        for (int comment = 0; comment < COMMENTS; comment++) {
+            int c = comment;
+            Probe p = new Probe(made.get());
+            if (p.say(() -> p.x.about(c)) == -1001) {
+                return;
+            }
+            p.rights();
+            p.say(() -> p.x.take(0, c));
+            for (int part = 0; part < PARTS; part++) {
+                int q = part;
+                if (p.say(() -> p.x.length(q)) >= 0) {
+                    p.all.append(Check.row(p.x, q));
+                }
+            }
+            b.append(p.all);
+        }
+    }
+
+    /** The step of a box that holds nothing shows in the differences of versions alone, of which there are five. */
+    private static void steps(Supplier<Notebookspire> made, StringBuilder b) {
+        for (int part = 0; part < PARTS; part++) {
+            boolean isThere = true;
+            for (int at = 0; at < 21 && isThere; at++) {
+                Probe p = new Probe(made.get());
+                isThere = p.stepsOf(part, at / 3 - 1, at % 3);
+                b.append(p.all);
+            }
+        }
+    }
+
+    private boolean stepsOf(int part, int slide, int box) {
+        rights();
+        int first = say(x::version);
+        for (int step = 0; step < 3; step++) {
+            int t = step;
+            if (say(() -> x.box(0, part, slide, box, -1, t)) == -1001) {
+                return false;
+            }
+            int now = say(x::version);
+            say(() -> x.difference(first, now, part));
+        }
+        return true;
     }
 
     static String all(Notebookspire x) {
@@ -122,15 +177,23 @@ final class Probe {
     private void macro() {
         say(() -> x.make(0, Notebookspire.SHEET));
         say(() -> x.make(0, Notebookspire.TEXT));
+        run();
+        say(() -> x.line(Notebookspire.ADD, 1));
+        say(() -> x.line(Notebookspire.BACK, 1));
+        run();
+        say(x::wipe);
+        say(() -> x.line(0, 0));
+    }
+
+    /** On the first SHEET and TEXT there are. */
+    private void run() {
         for (int part = 0; part < PARTS * PARTS; part++) {
             int p = part;
             if (say(() -> x.run(0, p / PARTS, p % PARTS)) >= 0) {
                 all.append(Check.cells(x, 0, p / PARTS)).append(Check.row(x, p % PARTS));
-                break;
+                return;
             }
         }
-        say(x::wipe);
-        say(() -> x.line(0, 0));
     }
 
     private void comments() {

@@ -78,16 +78,21 @@ final class Script {
         if (more == null && known != null) {
             return known;
         }
+        if (more != null) {
+            return Probe.all(() -> again(more));
+        }
+        known = Probe.all(() -> again("length 0"));
+        return known;
+    }
+
+    /** Another object, behind the calls that were not refused and one more. */
+    private Notebookspire again(String more) {
         Notebookspire y = new Notebookspire();
         for (String call : done) {
             told(y, call);
         }
-        if (more != null) {
-            told(y, more);
-            return Probe.all(y);
-        }
-        known = Probe.all(y);
-        return known;
+        told(y, more);
+        return y;
     }
 
     /** A row for each way to take one of what stands in braces. */
