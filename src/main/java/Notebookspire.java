@@ -71,7 +71,7 @@ public final class Notebookspire {
         if (parts.count >= MOST_PARTS) {
             throw new IllegalStateException("too many parts");
         }
-        int part = parts.add(person, kind);
+        int part = parts.add(person);
         if (kind == SHEET) {
             sheets[part] = new Sheet();
         } else if (kind == TEXT) {
@@ -997,10 +997,9 @@ public final class Notebookspire {
         }
     }
 
-    /** The kinds and owners of the parts, and the persons' rights to them. */
+    /** The owners of the parts, and the persons' rights to them. */
     private static final class Parts {
         int count;
-        final int[] kinds = new int[MOST_PARTS];
         final int[] owners = new int[MOST_PARTS];
         final int[] rights = new int[MOST_PARTS * PERSONS];
 
@@ -1008,9 +1007,8 @@ public final class Notebookspire {
             return part >= 0 && part < count;
         }
 
-        int add(int person, int kind) {
+        int add(int person) {
             int part = count;
-            kinds[part] = kind;
             owners[part] = person;
             rights[part * PERSONS + person] = EDIT;
             count = part + 1;

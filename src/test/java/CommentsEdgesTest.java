@@ -146,6 +146,7 @@ public final class CommentsEdgesTest {
             "row 0 = adzc");
         on("29: undone by the one who took it", "abc", "comment 0 0 0 1 25", "take 1 0 = 6", "undo 0 0 = true", "row 0 = z", "undo 1 0 = true",
             "row 0 = ", "undo 1 0 = true", "row 0 = a");
+        on("29: behind an undo", "abc", "put 1 0 3 3", "undo 1 0 = true", "comment 0 0 1 1 25", "take 1 0 = 7", "undo 1 0 = true", "row 0 = ac", "undo 1 0 = true", "row 0 = abc");
         on("29: what others are about", "abcde", "comment 0 0 1 2 25", "comment 0 0 0 4 24", "comment 0 0 2 3 24", "comment 0 0 1 2 24", "comment 0 0 4 4 24",
             "take 1 0 = 8", "row 0 = azde", "about 1 = 4", "about 2 = 201", "about 3 = -1", "about 4 = 301");
     }

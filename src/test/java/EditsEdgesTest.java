@@ -10,6 +10,7 @@ public final class EditsEdgesTest {
         putFields();
         sixOwnEdits();
         fortyInAView();
+        fortySixInAView();
         whoMayPut();
         firstOfTheReasonsNotToPut();
         outPlaces();
@@ -90,6 +91,12 @@ public final class EditsEdgesTest {
             "see 1 0 = 3", "view 1 0 = 41", "put 1 0 {0,40,41} 9 ! state", "put 1 0 42 9 ! index", "see 1 0 = 2", "see 1 0 = 1",
             "see 1 0 = 0", "view 1 0 = 44", "put 1 0 {0,44} 9 ! state", "out 1 0 43 = 5", "out 1 0 42 = 6", "view 1 0 = 42",
             "put 1 0 0 9 ! state", "viewed 1 0 = dcba" + cut(36) + "hg");
+    }
+
+    private static void fortySixInAView() {
+        on("16: 46 tokens", cut(34), "put 1 0 0 {0..5}", "put 0 0 34 {6..9}", "put 0 0 34 {24,25}", "send 0 0", "see 1 0", "see 1 0", "see 1 0", "see 1 0", "see 1 0 = 1",
+            "view 1 0 = 45", "see 1 0 = 0", "view 1 0 = 46", "viewed 1 0 = fedcba" + cut(34) + "zyjihg", "viewAt 1 0 45 = 6", "viewAt 1 0 46 ! index", "put 1 0 46 0 ! state",
+            "put 1 0 47 0 ! index", "out 1 0 45 ! state", "out 1 0 46 ! index");
     }
 
     private static void whoMayPut() {

@@ -19,6 +19,7 @@ public final class FlatEdgesTest {
         longLogsByTakingIn();
         whoMayTakeIn();
         changed();
+        changedBehindAnUndo();
         changedAhead();
         changedEverywhere();
         lettersToChange();
@@ -99,6 +100,8 @@ public final class FlatEdgesTest {
         on("40: FIELDs as they are shown", "ab", "show 0 1 0 1", "put 0 1 1 200", "send 0 1", "takeIn 0 1 3 = 4", "row 3 = aabb");
         on("40: itself", "aHb", "takeIn 0 1 1 = 3", "row 1 = aBb", "log 1 = 9", "rowByLog 1 = aBb");
         on("40: comments and shows of what is taken out", "ab", "write 0 3 xy", "comment 0 3 0 1 5", "show 0 3 0 1", "takeIn 0 1 3 = 2", "about 0 = -1", "drawn 0 0 = <>");
+        on("40: behind an undo", "ab", "write 0 3 xy", "undo 0 3 = true", "takeIn 0 1 3 = 2", "undo 0 3 = true", "row 3 = a", "undo 0 3 = true", "row 3 = ",
+            "undo 0 3 = true", "row 3 = x");
         on("40: undone one by one", "ab", "write 0 3 xy", "takeIn 0 1 3 = 2", "undo 0 3 = true", "row 3 = a", "undo 0 3 = true", "row 3 = ", "undo 0 3 = true", "row 3 = x",
             "undo 0 3 = true", "row 3 = xy");
     }
@@ -113,7 +116,7 @@ public final class FlatEdgesTest {
     private static void takenInForty() {
         on("40: forty", FORTY, "takeIn 0 1 3 = 40", "row 3 = " + FORTY, "log 3 = 40");
         on("40: forty again", FORTY, "write 0 3 " + FORTY, "takeIn 0 1 3 = 40", "row 3 = " + FORTY, "log 3 = 120");
-        on("40: forty-one and more", FORTY.substring(0, 38), "show 0 1 0 1", "put 0 1 0 200", "send 0 1", "takeIn 0 1 3 = 40", "row 3 = ab" + FORTY.substring(0, 38),
+        on("40: forty-one and more", FORTY.substring(0, 38), "show 0 1 0 1", "put 0 1 0 200", "send 0 1", "takeIn 0 1 3 = 40", "row 3 = ab" + FORTY.substring(0, 38), "log 3 = 40",
             "put 0 1 0 200", "send 0 1", "takeIn 0 1 3 = 40", "row 3 = abab" + FORTY.substring(0, 36));
         on("40: BREAKs count", "H".repeat(40), "takeIn 0 1 3 = 40", "row 3 = " + "B".repeat(40));
         on("40: a DECK of more", FORTY.substring(0, 20), "show 0 1 0 19", "slide 0 2 {0..5}", "box 0 2 -1 0 0 0", "takeIn 0 2 3 = 40",
@@ -145,6 +148,8 @@ public final class FlatEdgesTest {
         filled("40: 297, one sent, one out and two in", "", 297, "put 0 3 0 25", "takeIn 0 1 3 ! state", "viewed 0 3 = z", "length 3 = 0");
         filled("40: 300, one to be sent", "", 300, "put 0 3 0 25", "takeIn 0 2 3 ! state", "viewed 0 3 = z");
         filled("40: what is left out counts for nothing", "", 297, "takeIn 0 0 3 = 3", "log 3 = 300");
+        filled("40: but all BREAKs count", "", 298, "takeIn 0 0 3 ! state", "log 3 = 298");
+        filled("40: not what was drawn ahead of it", "", 298, "make 0 1", "write 0 4 zyxwvu", "flatText 0 4 0 = zyxwvu", "takeIn 0 1 3 = 2", "row 3 = ab", "log 3 = 300");
         filled("40: itself", "xyz", 294, "takeIn 0 3 3 = 3", "log 3 = 300");
         filled("40: itself, too long by one", "xyz", 295, "takeIn 0 3 3 ! state", "row 3 = xyz");
         on("40: those behind the 40th count for nothing", FORTY, "show 0 1 0 39", "make 0 1", "write 0 4 00", "fill 0 1 3 260", "takeIn 0 4 3 = 40", "log 3 = 300");
@@ -176,6 +181,10 @@ public final class FlatEdgesTest {
             "undo 0 1 = true", "row 1 = abab");
     }
 
+    private static void changedBehindAnUndo() {
+        on("41: behind an undo", "ab", "put 0 1 0 3", "undo 0 1 = true", "change 0 0 1 25 = 1", "undo 0 1 = true", "row 1 = b", "undo 0 1 = true", "row 1 = ab");
+    }
+
     private static void changedAhead() {
         on("41: the first and the last letter", "azza", "change 0 25 0 0 = 1", "row 1 = azaa", "change 0 0 25 25 = 1", "row 1 = zzaa", "change 0 0 0 25 = 1",
             "row 1 = zzza", "change 0 25 25 0 = 2", "row 1 = aaza");
@@ -186,6 +195,7 @@ public final class FlatEdgesTest {
         on("41: in each TEXT with EDIT", "ab", "write 0 3 ab", "change 1 0 1 25 = 1", "row 1 = ab", "row 3 = zb", "change 2 0 1 25 = 0", "row 1 = ab").each(1, 2,
             "give 0 1 1 %d", "change 1 0 1 25 = 0").on("give 0 1 1 3", "change 1 0 1 25 = 1", "row 1 = zb");
         on("41: six TEXTs", "ab", "write 0 3 ab", "make 0 1", "make 0 1", "write 0 {4,5} ab", "change 0 0 1 25 = 4", "row {1,3,4,5} = zb", "log {1,3,4,5} = 4");
+        new Script("41: in the first part too", "make 0 1", "make 0 1", "write 0 {0,1} ab", "change 0 0 1 25 = 2", "row {0,1} = zb", "log {0,1} = 4");
         on("41: the person sends in each of them", "ab", "put 0 1 0 25", "put 0 3 0 25", "put 1 3 0 24", "change 0 7 -1 8 = 0", "row 1 = zab", "row 3 = z", "viewed 1 3 = y",
             "change 1 7 -1 8 = 0", "row 3 = zy");
         on("41: with what is sent", "b", "put 0 1 0 0", "change 0 0 1 25 = 1", "row 1 = zb", "log 1 = 4");
@@ -211,6 +221,10 @@ public final class FlatEdgesTest {
         filled("41: 300, one to be sent", "ab", 300, "put 1 3 2 25", "change 1 7 1 25 ! state", "viewed 1 3 = abz");
         filled("41: too long in a later TEXT", "ab", 300, "put 0 1 0 3", "comment 0 1 0 0 5", "show 0 1 0 1", "change 0 0 1 25 ! state", "row 1 = ab", "viewed 0 1 = dab",
             "about 0 = 1", "drawn 0 0 = <ab>");
+        new Script("41: too long in the second of two TEXTs", "make 0 1", "make 0 1", "give 0 {0,1} 1 3", "write 0 {0,1} abab", "fill 0 1 1 300", "put 0 0 0 3",
+            "comment 0 0 0 1 5", "change 0 0 1 25 ! state", "row 0 = abab", "log 0 = 4", "viewed 0 0 = dabab", "about 0 = 2", "rowByLog 0 = abab");
+        new Script("41: what was refused is not undone", "make 0 1", "make 0 1", "give 0 {0,1} 1 3", "write 0 {0,1} abab", "fill 0 1 1 300", "change 0 0 1 25 ! state",
+            "undo 0 0 = true", "row 0 = aba", "log 0 = 5", "undo 0 0 = true", "row 0 = ab", "rowByLog 0 = ab");
         on("41: too long in an earlier TEXT", "ab", "fill 0 0 1 300", "write 0 3 ab", "put 0 3 0 3", "change 0 0 1 25 ! state", "row 3 = ab", "viewed 0 3 = dab",
             "change 1 0 1 25 = 1", "row 3 = zb");
     }

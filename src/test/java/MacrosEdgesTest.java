@@ -11,6 +11,7 @@ public final class MacrosEdgesTest {
         wiped();
         writing();
         adding();
+        addingToEachCell();
         addingToFormulas();
         moving();
         typing();
@@ -73,6 +74,13 @@ public final class MacrosEdgesTest {
         on("46: ADD from one end", "set 0 0 0 number 1000").on(lines(ADD, -1, ADD, 1, ADD, 1)).on("run 0 0 1 = 2", "value 0 0 0 = 1000");
     }
 
+    private static void addingToEachCell() {
+        Script s = on("46: ADD to each cell", "set 0 0 {0..11} number 500").each(0, 11, "set 0 0 %d number 1%d");
+        for (int cell = 0; cell < 12; cell++) {
+            s.on("wipe").on(lines(MOVE, cell, ADD, 50)).on("run 0 0 1 = 2", "value 0 0 " + cell + " = " + (50 + Integer.parseInt("1" + cell)));
+        }
+    }
+
     private static void addingToFormulas() {
         for (int kind = 0; kind <= 4; kind++) {
             on("46: ADD to a formula", "set 0 0 1 number 2", "formula 0 0 0 " + kind + " 0 1 0 1").on(lines(ADD, 0, WRITE, 5)).on("run 0 0 1 = 0")
@@ -99,6 +107,7 @@ public final class MacrosEdgesTest {
             "view 1 1 = 0");
         on("46: TYPE behind the row", "write 0 1 bH").on(lines(TYPE, 2)).on("run 1 0 1 = 1", "row 1 = bHc", "viewed 1 1 = bHc", "see 1 1 = 0", "see 0 1 = 0", "undo 1 1 = true",
             "row 1 = bH", "undo 1 1 ! state");
+        on("46: TYPE behind an undo", "put 0 1 0 3", "undo 0 1 = true").on(lines(TYPE, 2)).on("run 0 0 1 = 1", "undo 0 1 = true", "row 1 = ");
         on("46: who TYPEs sends ahead of it", "put 0 1 0 7", "put 1 1 0 8").on(lines(TYPE, 2)).on("run 1 0 1 = 1", "row 1 = ic", "log 1 = 2", "viewed 0 1 = h");
         on("46: without TYPE nothing is sent or seen", "write 0 1 a", "put 1 1 0 8").on(lines(WRITE, 2)).on("run 1 0 1 = 1", "row 1 = a", "viewed 1 1 = i", "see 1 1 = 0");
     }

@@ -22,6 +22,7 @@ public final class SheetsEdgesTest {
         listsOfOddCells();
         hiddenSheets();
         asking();
+        sixSheets();
         whoMayAsk();
         roundsOfChains();
         roundsWithoutFormulas();
@@ -152,6 +153,11 @@ public final class SheetsEdgesTest {
                 .on("formula 0 0 4 " + kind + " 0 1 0 2").on(is(0, 4, 2, 2))
                 .on("formula 0 0 4 " + kind + " 0 0 0 1").on(is(0, 4, 2, 1))
                 .on("formula 0 0 4 " + kind + " 0 3 0 9").on(is(0, 4, 2, 3))
+                .on("formula 0 0 4 " + kind + " 0 3 0 0").on(is(0, 4, 2, 1))
+                .on("formula 0 0 4 " + kind + " 0 0 0 3").on(is(0, 4, 2, 1))
+                .on("set 0 0 6 number 0", "formula 0 0 4 " + kind + " 0 6 0 0").on(is(0, 4, 2, 1))
+                .on("formula 0 0 4 " + kind + " 0 0 0 6").on(is(0, 4, 2, 1))
+                .on("formula 0 0 4 " + kind + " 0 6 0 2").on(is(0, 4, 2, 2))
                 .on("formula 0 0 4 " + kind + " 0 9 0 3").on(is(0, 4, 2, 3))
                 .on("formula 0 0 4 " + kind + " 3 0 0 0").on(is(0, 4, 2, 3))
                 .on("formula 0 0 4 " + kind + " 0 0 3 0").on(is(0, 4, 2, 1));
@@ -298,6 +304,13 @@ public final class SheetsEdgesTest {
             "value 0 0 0 = 20", "rounds = 20", "set 0 0 2 number 5", "value 0 0 0 = 20");
     }
 
+    private static void sixSheets() {
+        new Script("8: six SHEETs").each(0, 5, "make 0 0 = %d", "set 0 %d 0 number 3", "formula 0 %d 1 4 %d 0 %d 0", "set 0 %d 11 number 1%d",
+            "flatText 0 %d 0 = 3,1,;,2,;,3,;,,1%d", "what 0 %d 7 = 1", "value 0 %d 7 = 3", "valueAnew 0 %d 11 = 1%d", "rounds = 2")
+            .on("formula 0 5 2 0 0 11 4 7", "value 0 5 2 = 13", "formula 0 0 2 3 5 0 0 11", "value 0 0 2 = 37", "formula 0 5 5 4 3 4 3 0", "value 0 0 2 = 40",
+                "valueAnew 0 0 2 = 40", "what 0 6 0 ! index");
+    }
+
     private static void whoMayAsk() {
         for (String call : new String[] {"7: what", "8: value", "9: valueAnew"}) {
             String name = call.substring(3);
@@ -349,6 +362,8 @@ public final class SheetsEdgesTest {
         on("10: a count that becomes another one", "set 0 0 0 number 3", "formula 0 0 1 4 0 2 0 0", "formula 0 0 2 0 0 5 0 8",
             "formula 0 0 5 0 0 8 0 11", "formula 0 0 8 0 0 0 0 11", "rounds = 5", "flatText 0 0 0 = 3,!,6;,,3;,,3;,,",
             "set 0 0 0 number 1", "flatText 0 0 0 = 1,1,2;,2,1;,,1;,,", "rounds = 5");
+        on("10: what spills is there in the same round", "set 0 0 0 number 2", "formula 0 0 1 4 0 0 0 0", "formula 0 0 5 0 0 4 0 4", "rounds = 2").on(is(0, 5, 1, 4));
+        on("10: and in the next one for those ahead of it", "set 0 0 3 number 2", "formula 0 0 1 4 0 3 0 0", "formula 0 0 0 0 0 4 0 4", "rounds = 3").on(is(0, 0, 1, 4));
         on("10: an error that stays, though the asked number moves", "set 0 0 11 number 9", "formula 0 0 0 4 0 1 0 0",
             "formula 0 0 1 0 0 11 0 11", "rounds = 2");
     }

@@ -223,6 +223,8 @@ public final class ShowsEdgesTest {
         on("37: by rights that hide a SHEET", "ab", "make 2 0", "set 2 4 0 number 5", "give 2 4 0 1", "formula 0 0 0 0 4 0 4 1", "show 0 0 0 0 = 0", "redrawn = 1",
             "drawn 0 0 = <5>", "give 2 4 0 0", "redrawn = 1", "drawn 0 0 = <!>", "give 2 4 0 3", "redrawn = 1");
         on("37: asking for what is shown is not asking for this", "ab", "show 0 0 0 0 = 0", "redrawn = 1", "set 0 0 0 number 1", "drawn 0 0 = <1>", "redrawn = 1");
+        on("37: to someone who has all rights", "ab", "make 2 0", "show 2 4 0 0 = 0", "put 0 1 1 200", "send 0 1", "show 0 1 0 2 = 1", "redrawn = 2", "drawn 0 0 = #",
+            "drawn 0 1 = <a#b>", "redrawn = 0", "set 2 4 0 number 5", "redrawn = 2", "drawn 0 1 = <a#b>", "redrawn = 0", "give 2 4 0 1", "drawn 0 1 = <a<5>b>", "redrawn = 0");
         sized("37: behind the 80th", 81).on("redrawn = 1", "set 0 4 11 number 998", "redrawn = 1", "set 0 4 11 number 1000", "redrawn = 1", "formula 0 4 11 2 0 0 0 0",
             "redrawn = 0");
     }

@@ -42,6 +42,8 @@ public final class VersionsEdgesTest {
 
     private static void formulas() {
         new Script("43: a formula and a number of the same value", "make 0 0", "formula 0 0 0 0 0 1 0 1", "version", "set 0 0 0 number 0", "version", "difference 0 1 0 = 1");
+        new Script("43: what a cell had ahead", "make 0 0", "set 0 0 0 number 5", "version", "formula 0 0 {0,1} 1 0 4 0 5", "formula 0 0 2 3 0 4 0 5", "set 0 0 0 number 5",
+            "set 0 0 1 blank 5", "formula 0 0 2 4 0 4 0 5", "set 0 0 2 blank 0", "version", "difference 0 1 0 = 0");
         for (String other : new String[] {"1 0 4 0 5", "0 1 4 0 5", "0 0 3 0 5", "0 0 4 1 5", "0 0 4 0 6"}) {
             new Script("43: a formula that differs in one of its cells, SHEETs or kind: " + other, "make 0 0", "make 0 0", "formula 0 0 0 0 0 4 0 5", "version",
                 "formula 0 0 0 " + other, "version", "formula 0 0 0 0 0 4 0 5", "version", "difference 0 1 0 = 1", "difference 1 2 0 = 1", "difference 0 2 0 = 0");
