@@ -98,6 +98,7 @@ public final class FlatEdgesTest {
         on("40: from the last one on", "ab", "write 0 3 xyz", "send 1 3", "takeIn 0 1 3 = 2", "log 3 = 8", "see 1 3 = 4", "viewed 1 3 = xy", "see 1 3 = 3", "viewed 1 3 = x",
             "see 1 3 = 2", "viewed 1 3 = ", "see 1 3 = 1", "viewed 1 3 = a", "see 1 3 = 0", "viewed 1 3 = ab");
         on("40: FIELDs as they are shown", "ab", "show 0 1 0 1", "put 0 1 1 200", "send 0 1", "takeIn 0 1 3 = 4", "row 3 = aabb");
+        on("40: not what was drawn ahead of it", "ab", "make 0 1", "write 0 4 zyxwvu", "flatText 0 4 0 = zyxwvu", "takeIn 0 1 3 = 2", "row 3 = ab", "log 3 = 2");
         on("40: itself", "aHb", "takeIn 0 1 1 = 3", "row 1 = aBb", "log 1 = 9", "rowByLog 1 = aBb");
         on("40: comments and shows of what is taken out", "ab", "write 0 3 xy", "comment 0 3 0 1 5", "show 0 3 0 1", "takeIn 0 1 3 = 2", "about 0 = -1", "drawn 0 0 = <>");
         on("40: behind an undo", "ab", "write 0 3 xy", "undo 0 3 = true", "takeIn 0 1 3 = 2", "undo 0 3 = true", "row 3 = a", "undo 0 3 = true", "row 3 = ",
@@ -117,7 +118,7 @@ public final class FlatEdgesTest {
         on("40: forty", FORTY, "takeIn 0 1 3 = 40", "row 3 = " + FORTY, "log 3 = 40");
         on("40: forty again", FORTY, "write 0 3 " + FORTY, "takeIn 0 1 3 = 40", "row 3 = " + FORTY, "log 3 = 120");
         on("40: forty-one and more", FORTY.substring(0, 38), "show 0 1 0 1", "put 0 1 0 200", "send 0 1", "takeIn 0 1 3 = 40", "row 3 = ab" + FORTY.substring(0, 38), "log 3 = 40",
-            "put 0 1 0 200", "send 0 1", "takeIn 0 1 3 = 40", "row 3 = abab" + FORTY.substring(0, 36));
+            "put 0 1 0 200", "send 0 1", "takeIn 0 1 3 = 40", "row 3 = abab" + FORTY.substring(0, 36), "log 3 = 120");
         on("40: BREAKs count", "H".repeat(40), "takeIn 0 1 3 = 40", "row 3 = " + "B".repeat(40));
         on("40: a DECK of more", FORTY.substring(0, 20), "show 0 1 0 19", "slide 0 2 {0..5}", "box 0 2 -1 0 0 0", "takeIn 0 2 3 = 40",
             "row 3 = B" + FORTY.substring(0, 20) + "B" + FORTY.substring(0, 18));
