@@ -66,7 +66,7 @@ final class Script {
             if (answer >= 0) {
                 Check.due(about + ": " + call, got, row.substring(answer + 3));
             } else {
-                Check.due(about + ": " + call + " is not refused", got.endsWith(" exception") ? got : "", "");
+                Check.due(about + ": " + call + " is not refused", got.endsWith("xception") ? got : "", "");
             }
             done.add(call);
             known = null;
